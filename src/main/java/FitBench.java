@@ -30,6 +30,7 @@ public final class FitBench {
     private static final int MOST_STEP = 1000;
     private static final int MOST_STEPS = 2001;
     private static final int MOST_WIDTH = MEASURES * MOST_SHARE * 2 * MOST_MISS;
+    private static final int SOME_CELLS = 24000;
     private static final int MOST_CELLS = 200000;
     private static final long MOST_PARTS = 1000000000000L;
 
@@ -843,8 +844,8 @@ public final class FitBench {
                 return false;
             }
             if (row.length < cells) {
-                // Of the full length at once: an object makes no third row.
-                row = new long[MOST_CELLS];
+                // In two steps, not as needed: an object never makes more than three rows.
+                row = new long[cells <= SOME_CELLS ? SOME_CELLS : MOST_CELLS];
             }
             rows = newRows;
             columns = newColumns;

@@ -499,6 +499,10 @@ public final class PromisesTest {
         uneven.ends(0, -39, -38);
         due(15, "7 of 282", uneven.chance(0, 0), 7);
         due(15, "7 of 282", uneven.chance(0, 1), 282);
+        uneven.ends(0, 39, 40);
+        due(15, "7 of 282", uneven.chance(0, 0), 7);
+        uneven.ends(0, 5, 7);
+        due(15, "12 of 282", uneven.chance(0, 1), 47);
         // 50 to the power of 6 times 64 is 1000000000000.
         FitBench full = new FitBench();
         for (int m = 0; m < 7; m++) {
@@ -657,8 +661,8 @@ public final class PromisesTest {
         spanDue(x, 4, 10, 0, 3);
         spanDue(x, 399, 1000, 0, 6);
         spanDue(x, 5, 10, 3, 3);
-        spanDue(x, 999, 1000, -6, -6);
         spanDue(x, 0, 1000, -6, 6);
+        spanDue(x, 999, 1000, -6, -6);
         x.share(0, 0, -3);
         spanDue(x, 3, 10, -6, 0);
         spanDue(x, 4, 10, -6, -3);
@@ -808,6 +812,10 @@ public final class PromisesTest {
         by1.level(0, 0, 0, 3);
         by1.level(0, 0, 0, 2);
         due(22, "cheaper by 1", by1.best(), 2);
+        by1.level(1, 0, 0, 0);
+        by1.level(1, 0, 0, 10);
+        due(22, "with one that may cost nothing", by1.best(), 2);
+        by1.plain(1);
         by1.measure(0, 0, 0, -5, 5);
         by1.plain(0);
         by1.level(1, 0, 0, 1);
@@ -1070,6 +1078,9 @@ public final class PromisesTest {
         due(28, "by 3", holes.shim(0, 2, 3), 3);
         due(28, "by 2", holes.shim(0, 2, 2), 5);
         due(28, "by 4: 3 is not met", holes.shim(0, 2, 4), -2);
+        shares(holes, 0, 3, 1, 1);
+        due(28, "the same, told the other way round", holes.shim(0, 2, 3), 3);
+        shares(holes, 0, 1, 3, 1);
         holes.measure(0, 0, 0, 0, 2);
         due(28, "now 2 is there", holes.shim(0, 2, 3), -2);
         holes.measure(0, 0, 0, 0, 0);
@@ -1120,11 +1131,16 @@ public final class PromisesTest {
         x.plain(0);
         x.level(0, -9, 0, 1);
         x.level(0, 0, 9, 2);
+        x.level(0, 0, 0, 0);
+        x.level(0, 0, 0, 0);
         x.share(0, 0, 3);
         x.ends(0, -1000, 1000);
         x.sweep(0);
         x.sweep(1);
         x.part(0, 8);
+        x.part(0, 9);
+        x.part(0, 4);
+        x.part(1, 5);
         x.part(1, 5);
         x.match(0, 0);
         x.best();
@@ -1161,6 +1177,7 @@ public final class PromisesTest {
         due(30, "choice(0)", x.choice(0), 1);
         due(30, "choice(1)", x.choice(1), -1);
         due(30, "match", x.match(1, 1), 1);
+        due(30, "match of all", x.match(-30000, 30000), 1);
         due(30, "best", x.best(), 5);
         due(30, "ends", x.ends(0, 9, 14) ? 1 : 0, 1);
         due(30, "best, wider above", x.best(), 4);
