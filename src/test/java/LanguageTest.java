@@ -9,7 +9,7 @@ import java.util.TreeSet;
 import java.util.regex.Matcher;
 import java.util.regex.Pattern;
 
-/** Those rules of LANGUAGE.md that can be seen in the text or the face of the class. Run it from the project's folder. */
+/** Those rules of LANGUAGE.md that can be seen in the class's text or face. Run it from the project's folder. */
 public final class LanguageTest {
     private static final Path SOURCE = Path.of("src/main/java/FitBench.java");
     private static final Path DOCUMENT = Path.of("../shared/DOC.md");

@@ -2,11 +2,15 @@ import java.util.Random;
 
 /** Runs of random calls, the same ones each time, on FitBench and on PlainBench side by side. */
 public final class RandomRunsTest {
+    /** What later calls of an object answer is free. */
+    private static final int MOST_CALLS = 512;
+    /** As many as lookAtAll() makes. */
+    private static final int CALLS_OF_LOOK = 316;
     private static int wrong = 0;
     private static long calls = 0;
 
     public static void main(String[] args) {
-        int runs = args.length > 0 ? Integer.parseInt(args[0]) : 1200;
+        int runs = args.length > 0 ? Integer.parseInt(args[0]) : 6000;
         int seed = args.length > 1 ? Integer.parseInt(args[1]) : 1;
         for (int run = 0; run < runs && wrong < 20; run++) {
             new Run(new Random(seed * 1000003L + run), run).play();
@@ -25,6 +29,7 @@ public final class RandomRunsTest {
         /** Few measures with few misses, or up to all of them. */
         private final int mostMiss;
         private final int measures;
+        private int made;
 
         Run(Random random, int number) {
             this.random = random;
@@ -36,16 +41,19 @@ public final class RandomRunsTest {
 
         void play() {
             begin();
-            for (int call = 0; call < 300; call++) {
-                if (random.nextInt(40) == 0) {
-                    lookAtAll();
+            int end = random.nextInt(4) == 0 ? MOST_CALLS - CALLS_OF_LOOK : MOST_CALLS;
+            while (made < end) {
+                if (random.nextInt(12) == 0) {
+                    lookAtSome();
                 } else if (random.nextInt(3) == 0) {
                     ask();
                 } else {
                     change();
                 }
             }
-            lookAtAll();
+            if (end < MOST_CALLS) {
+                lookAtAll();
+            }
         }
 
         /** A bench on which most questions have an answer. */
@@ -219,18 +227,35 @@ public final class RandomRunsTest {
 
         private void lookAtAll() {
             for (int m = -1; m <= 12; m++) {
-                for (int what = -1; what <= 8; what++) {
-                    due("of", fit.of(m, what), plain.of(m, what), m, what);
-                }
-                due("choice", fit.choice(m), plain.choice(m), m);
+                lookAtMeasure(m);
             }
             for (int c = -1; c <= 6; c++) {
-                for (int what = -1; what <= 15; what++) {
-                    due("chain", fit.chain(c, what), plain.chain(c, what), c, what);
-                }
+                lookAtChain(c);
             }
             for (int k = -1; k <= 24; k++) {
                 due("mate", fit.mate(k), plain.mate(k), k);
+            }
+        }
+
+        private void lookAtSome() {
+            lookAtMeasure(r(0, measures - 1));
+            if (random.nextInt(3) == 0) {
+                lookAtChain(r(0, 5));
+            }
+            int k = r(0, 23);
+            due("mate", fit.mate(k), plain.mate(k), k);
+        }
+
+        private void lookAtMeasure(int m) {
+            for (int what = -1; what <= 8; what++) {
+                due("of", fit.of(m, what), plain.of(m, what), m, what);
+            }
+            due("choice", fit.choice(m), plain.choice(m), m);
+        }
+
+        private void lookAtChain(int c) {
+            for (int what = -1; what <= 15; what++) {
+                due("chain", fit.chain(c, what), plain.chain(c, what), c, what);
             }
         }
 
@@ -239,6 +264,10 @@ public final class RandomRunsTest {
         }
 
         private void due(String name, long got, long want, int... with) {
+            made++;
+            if (made > MOST_CALLS) {
+                return;
+            }
             calls++;
             StringBuilder call = new StringBuilder(name).append('(');
             for (int i = 0; i < with.length; i++) {
