@@ -1,57 +1,111 @@
-/** Each promise of the document by its number, with answers worked out by hand. */
+import java.io.IOException;
+import java.nio.file.Files;
+import java.nio.file.Path;
+import java.util.TreeMap;
+import java.util.regex.Matcher;
+import java.util.regex.Pattern;
+
+/**
+ * Each promise of the document by its number and name, with answers worked out
+ * by hand. Run it from the project's folder.
+ */
 public final class PromisesTest {
     private static final int LEAST = Integer.MIN_VALUE;
     private static final int MOST = Integer.MAX_VALUE;
+    private static final Path DOCUMENT = Path.of("../shared/DOC.md");
+    private static final int PROMISES = 30;
+    private static final TreeMap<Integer, String> names = new TreeMap<>();
+    private static final int[] answers = new int[PROMISES + 1];
     private static int wrong = 0;
-    private static int answers = 0;
 
-    public static void main(String[] args) {
-        newObject();
-        measure();
-        book();
-        tear();
-        of();
-        share();
-        ends();
-        chain();
-        join();
-        round();
-        over();
-        worst();
-        corner();
-        always();
-        chance();
-        chanceEdges();
-        both();
-        bothSpent();
-        mean();
-        span();
-        spanEdges();
-        pull();
-        level();
-        plain();
-        best();
-        bestOverChains();
-        choice();
-        part();
-        sweep();
-        match();
-        mate();
-        shim();
-        shimLimits();
-        image();
-        back();
-        System.out.println(wrong == 0 ? answers + " answers are as promised" : wrong + " answers are not as promised");
+    public static void main(String[] args) throws IOException {
+        readNames();
+        promise(1, "A new object", PromisesTest::newObject);
+        promise(2, "measure", PromisesTest::measure);
+        promise(3, "book", PromisesTest::book);
+        promise(4, "tear", PromisesTest::tear);
+        promise(5, "of", PromisesTest::of);
+        promise(6, "share", PromisesTest::share);
+        promise(7, "ends", PromisesTest::ends);
+        promise(8, "chain", PromisesTest::chain);
+        promise(9, "join", PromisesTest::join);
+        promise(10, "round", PromisesTest::round);
+        promise(11, "over", PromisesTest::over);
+        promise(12, "worst", PromisesTest::worst);
+        promise(13, "corner", PromisesTest::corner);
+        promise(14, "always", PromisesTest::always);
+        promise(15, "chance", PromisesTest::chance, PromisesTest::chanceEdges);
+        promise(16, "both", PromisesTest::both, PromisesTest::bothSpent);
+        promise(17, "mean", PromisesTest::mean);
+        promise(18, "span", PromisesTest::span, PromisesTest::spanEdges);
+        promise(19, "pull", PromisesTest::pull);
+        promise(20, "level", PromisesTest::level);
+        promise(21, "plain", PromisesTest::plain);
+        promise(22, "best", PromisesTest::best, PromisesTest::bestOverChains);
+        promise(23, "choice", PromisesTest::choice, PromisesTest::choiceOverChains);
+        promise(24, "part", PromisesTest::part);
+        promise(25, "sweep", PromisesTest::sweep);
+        promise(26, "match", PromisesTest::match);
+        promise(27, "mate", PromisesTest::mate);
+        promise(28, "shim", PromisesTest::shim, PromisesTest::shimLimits);
+        promise(29, "image", PromisesTest::image);
+        promise(30, "back", PromisesTest::back);
+        tell();
         if (wrong != 0) {
             System.exit(1);
         }
     }
 
+    private static void readNames() throws IOException {
+        Matcher headings = Pattern.compile("(?m)^## Promise (\\d+): (.*)$").matcher(Files.readString(DOCUMENT));
+        while (headings.find()) {
+            names.put(Integer.parseInt(headings.group(1)), headings.group(2).trim());
+        }
+        if (names.size() != PROMISES || names.firstKey() != 1 || names.lastKey() != PROMISES) {
+            fault("the document has the promises " + names);
+        }
+    }
+
+    /** Runs the tests of one promise, whose answers must be that one's alone. */
+    private static void promise(int number, String name, Runnable... tests) {
+        if (!name.equals(names.get(number))) {
+            fault("promise " + number + " is " + names.get(number) + " in the document, not " + name);
+        }
+        int elsewhere = total() - answers[number];
+        for (Runnable test : tests) {
+            test.run();
+        }
+        if (answers[number] == 0 || total() - answers[number] != elsewhere) {
+            fault("promise " + number + ": " + name + " has no test, or it asks for another one's answers");
+        }
+        names.remove(number);
+    }
+
+    private static int total() {
+        int sum = 0;
+        for (int count : answers) {
+            sum += count;
+        }
+        return sum;
+    }
+
+    private static void tell() {
+        if (!names.isEmpty()) {
+            fault("no test names the promises " + names);
+        }
+        System.out.println(wrong == 0 ? total() + " answers of " + PROMISES + " promises are as promised"
+                : wrong + " answers are not as promised");
+    }
+
+    private static void fault(String what) {
+        wrong++;
+        System.out.println(what);
+    }
+
     private static void due(int promise, String call, long got, long want) {
-        answers++;
+        answers[promise]++;
         if (got != want) {
-            wrong++;
-            System.out.println("promise " + promise + ": " + call + " answered " + got + ", due is " + want);
+            fault("promise " + promise + ": " + call + " answered " + got + ", due is " + want);
         }
     }
 
@@ -831,7 +885,8 @@ public final class PromisesTest {
         due(22, "wide enough", by1.best(), 0);
     }
 
-    private static void bestOverChains() {
+    /** Six chains of eight measures with levels that cost 0, 10, 20, 30 for misses by 3, 2, 1, 0 at most. */
+    private static FitBench sixChains() {
         FitBench x = new FitBench();
         for (int m = 0; m < 8; m++) {
             x.measure(m + 2, 0, 0, -40, 40);
@@ -843,19 +898,30 @@ public final class PromisesTest {
         for (int c = 0; c < 6; c++) {
             x.ends(c, -2, 2);
         }
+        return x;
+    }
+
+    private static void bestOverChains() {
+        FitBench x = sixChains();
         // Chains 0 and 1 have two measures: together 2: prices 20 + 20, 10 + 30, ..; the others 2: price 10.
         due(22, "six chains", x.best(), 120);
+        x.ends(1, 0, 0);
+        due(22, "one narrower", x.best(), 140);
+        x.plain(9);
+        due(22, "a measure with misses of its own", x.best(), -1);
+    }
+
+    private static void choiceOverChains() {
+        FitBench x = sixChains();
+        x.best();
         int[] want = {1, 1, 1, 1, 1, 1, 3, 3};
         for (int m = 0; m < 8; m++) {
             due(23, "choice(" + (m + 2) + ")", x.choice(m + 2), want[m]);
         }
         x.ends(1, 0, 0);
-        due(22, "one narrower", x.best(), 140);
+        x.best();
         due(23, "choice(3)", x.choice(3), 3);
         due(23, "choice(9)", x.choice(9), 3);
-        x.ends(1, 0, 0);
-        x.plain(9);
-        due(22, "a measure with misses of its own", x.best(), -1);
     }
 
     private static void choice() {
